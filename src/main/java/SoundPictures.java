@@ -179,8 +179,8 @@ public final class SoundPictures {
             case 4: return ballot.keysHeard();
             case 5: return ballot.keysKnown();
             case 6: return ballot.pieceOf(0);
-            case 7: return ballot.ranked() == 0 ? 0 : ballot.offsetOf(0);
-            case 8: return ballot.ranked() == 0 ? 0 : ballot.countOf(0);
+            case 7: return ballot.offsetOf(0);
+            case 8: return ballot.countOf(0);
             case 9: return ballot.doubt();
             case 10: return ballot.ranked();
             case 11: return ballot.allVotes();
@@ -616,6 +616,7 @@ public final class SoundPictures {
             return shareOf(best) >= state.floor() ? best : NONE;
         }
 
+        /** Of the window that was turned last. */
         private int shareOf(int wave) {
             return waves[wave] * waves[wave] / 64;
         }
@@ -773,20 +774,21 @@ public final class SoundPictures {
         }
 
         int offsetOf(int k) {
-            return k < ranked ? order[k] % OFFSETS - FARTHEST_OFFSET : NONE;
+            return k < ranked ? order[k] % OFFSETS - FARTHEST_OFFSET : 0;
         }
 
         int countOf(int k) {
-            return k < ranked ? cells[order[k]] : NONE;
+            return k < ranked ? cells[order[k]] : 0;
         }
 
         int doubt() {
-            if (ranked == 0 || countOf(0) <= 0) {
+            int most = countOf(0);
+            if (most <= 0) {
                 return 100;
             }
             for (int k = 1; k < ranked; k++) {
                 if (pieceOf(k) != pieceOf(0)) {
-                    return countOf(k) * 100 / countOf(0);
+                    return countOf(k) * 100 / most;
                 }
             }
             return 0;

@@ -9,7 +9,7 @@ import java.util.TreeMap;
 /** Long runs of calls by lots, each answer held against a second, slow telling of the document that keeps nothing ready. */
 public final class ModelTest {
     private static final int NONE = -1, UNKNOWN = -1000000001, OUTSIDE = -1000000002, NOT = -1000000003, FULL = -1000000004;
-    private static final int RUNS = 1500;
+    private static final int RUNS = 600;
     private static final int CALLS = 512;
     private static final int[] ODD = {Integer.MIN_VALUE, Integer.MIN_VALUE + 1, -1000000, -101, -16, -2, -1, 6, 16, 63, 128,
         129, 384, 1000000, Integer.MAX_VALUE - 1, Integer.MAX_VALUE};

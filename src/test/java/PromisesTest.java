@@ -144,6 +144,8 @@ public final class PromisesTest {
         due("4: lots(1, 2, 1)", x.lots(1, 2, 1), 0);
         // 16807 leaves 124 by 201; 16807 times 16807 is 282475249 and leaves 100.
         dueRow("4", x, 1, 24, 0);
+        due("4: lots(3, 1, 1)", x.lots(3, 1, 1), 0);
+        dueRow("4", x, 3, 24);
         due("4: lots(2, 7, 1)", x.lots(2, 7, 1), 0);
         due("4: lots(2, 8, 1)", x.lots(2, 8, 1), 1);
         due("4: lots(4, 128, 999999)", x.lots(4, 128, 999999), 16);
@@ -189,6 +191,9 @@ public final class PromisesTest {
         dueRow("6", x, 0, 0, 1, -1, 10, -10, 100, -100, 100, -100);
         due("6: louder(0, 1, 3)", x.louder(0, 1, 3), 8);
         dueRow("6", x, 0, 0, 0, 0, 3, -3, 33, -33, 33, -33);
+        addAll(x, 1, 8, -5);
+        due("6: louder(1, 9, 4)", x.louder(1, 9, 4), 2);
+        dueRow("6", x, 1, 18, -11);
         due("6: louder(0, 9, 9)", x.louder(0, 9, 9), 0);
         due("6: louder(4, 9, 1)", x.louder(4, 9, 1), 0);
         due("6: louder(5, 0, 0)", x.louder(5, 0, 0), UNKNOWN);
@@ -333,6 +338,9 @@ public final class PromisesTest {
         due("10: told(13)", x.told(13), OUTSIDE);
         due("10: told(MIN)", x.told(MIN), OUTSIDE);
         due("10: told(MAX)", x.told(MAX), OUTSIDE);
+        SoundPictures full = fullOfKeys();
+        int all = 4 * (15 * 15 + 14 * 14 + 13 * 13 + 12 * 12 + 11 * 11);
+        dueTold("10, as many keys as can be", full, 0, 5, 5, 260, 65, 65, 0, 0, 65, 100, 4 * 29, all, 8);
         x.bound(1, 2);
         // With REACH 2 there come in the pieces 13 21 32 and 11, far by two.
         due("10: told(2), REACH 2", x.told(2), 8);
@@ -368,11 +376,34 @@ public final class PromisesTest {
         due("11: row(0, -1)", x.row(0, -1), OUTSIDE);
         due("11: row(0, 6)", x.row(0, 6), OUTSIDE);
         due("11: row(0, MAX)", x.row(0, MAX), OUTSIDE);
-        SoundPictures y = new SoundPictures();
-        y.lots(0, 128, 1);
-        y.bound(1, 5);
-        y.bound(0, 0);
-        due("11: row(0, 3) at most", y.row(0, 3), 15 + 14 + 13 + 12 + 11);
+        due("11: row(1, 5), of like ones the least", mostOftenOf(6, 2, 2, 6), 2);
+        due("11: row(1, 5), the first window counts", mostOftenOf(6, 2), 2);
+        due("11: row(1, 5)", mostOftenOf(6, 2, 6), 6);
+        SoundPictures y = fullOfKeys();
+        for (int piece = 0; piece <= 4; piece++) {
+            due("11: row(" + piece + ", 3) at most", y.row(piece, 3), 65);
+        }
+    }
+
+    private static int mostOftenOf(int... waves) {
+        SoundPictures x = new SoundPictures();
+        addWaves(x, 1, waves);
+        return x.row(1, 5);
+    }
+
+    /** As many keys as there can be, all of peaks 1: each row has 15, 14, 13, 12, 11 of them, far by 1 to 5. */
+    private static SoundPictures fullOfKeys() {
+        SoundPictures x = new SoundPictures();
+        x.bound(0, 0);
+        x.bound(1, 5);
+        for (int piece = 0; piece <= 4; piece++) {
+            x.lots(piece, 128, 1);
+            // 100 / 9 is 11, then 1, then 0: rows of 0 alone.
+            x.louder(piece, 1, 9);
+            x.louder(piece, 1, 9);
+            x.louder(piece, 1, 9);
+        }
+        return x;
     }
 
     private static void at() {
@@ -649,6 +680,22 @@ public final class PromisesTest {
         due("22: goBack(-1)", x.goBack(-1), UNKNOWN);
         due("22: goBack(2)", x.goBack(2), UNKNOWN);
         due("22: goBack(MIN)", x.goBack(MIN), UNKNOWN);
+        x.wipe(0);
+        due("22: told(6) ahead of goBack", x.told(6), NONE);
+        x.goBack(1);
+        due("22: told(6) behind goBack", x.told(6), 0);
+        for (int piece = 0; piece <= 4; piece++) {
+            x.wipe(piece);
+            x.add(piece, 11 + piece);
+        }
+        x.keep(0);
+        for (int piece = 0; piece <= 4; piece++) {
+            x.louder(piece, 2, 1);
+        }
+        x.goBack(0);
+        for (int piece = 0; piece <= 4; piece++) {
+            dueRow("22", x, piece, 11 + piece);
+        }
         SoundPictures y = new SoundPictures();
         y.add(0, 1);
         due("22: goBack(0) that was not kept", y.goBack(0), NOT);
