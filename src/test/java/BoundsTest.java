@@ -213,7 +213,9 @@ public final class BoundsTest extends Sentences {
     }
 
     private static void hearWhatThereIs() {
-        promise(7, "NOT: the PIECE has none from there on.");
+        promise(7, "UNKNOWN, OUTSIDE, NOT: the PIECE has none from there on.");
+        due(five().hear(4, 128, 1), UNKNOWN);
+        due(five().hear(2, 128, 1), OUTSIDE);
         due(five().hear(2, 15, 1), 1);
         due(five().hear(2, 16, 1), NOT);
         due(five().hear(2, 127, 128), NOT);

@@ -24,6 +24,8 @@ public final class NewObjectTest extends Sentences {
     private static void constants() {
         face("NONE = -1");
         holds("NONE", SoundPictures.NONE == -1);
+        terms("NONE is -1.");
+        due(new Noted().keyAt(0), -1);
         face("UNKNOWN = -1000000001");
         holds("UNKNOWN", SoundPictures.UNKNOWN == -1000000001);
         face("OUTSIDE = -1000000002");

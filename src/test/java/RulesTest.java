@@ -5,6 +5,7 @@ import com.sun.source.tree.ClassTree;
 import com.sun.source.tree.CompilationUnitTree;
 import com.sun.source.tree.LambdaExpressionTree;
 import com.sun.source.tree.MemberReferenceTree;
+import com.sun.source.tree.MemberSelectTree;
 import com.sun.source.tree.MethodTree;
 import com.sun.source.tree.NewClassTree;
 import com.sun.source.tree.SynchronizedTree;
@@ -38,6 +39,9 @@ public final class RulesTest {
     private static final int MOST_CLASSES = 12;
     private static final int MOST_FIELDS = 20;
     private static final long MOST_BYTES = 64 * 1024;
+    private static final int MANY_CALLS = 200000;
+    /** All that the class needs of rule 4's library; what it comes to need is put here, if rule 4 has it. */
+    private static final String[] LIBRARY = {"Math.max", "Math.min", "System.arraycopy"};
 
     private static int wrong = 0;
 
@@ -55,6 +59,7 @@ public final class RulesTest {
         checkFace();
         checkSource(args.length > 0 ? args[0] : "src/main/java/SoundPictures.java");
         checkRoom();
+        checkCallsBeyondTheLast();
         System.out.println(wrong == 0 ? "rules: all are kept" : wrong + " rules are broken");
         if (wrong != 0) {
             System.exit(1);
@@ -149,7 +154,19 @@ public final class RulesTest {
             long lines = line(positions.getEndPosition(unit, tree)) - line(positions.getStartPosition(unit, tree)) + 1;
             mustBe(lines <= MOST_LINES, tree.getName() + " has " + lines + " lines");
             mustBe(tree.getParameters().size() <= MOST_PARAMETERS, tree.getName() + " has too many parameters");
+            boolean hidden = !tree.getModifiers().getFlags().contains(javax.lang.model.element.Modifier.PUBLIC);
+            mustBe(!hidden || Arrays.stream(FACE).noneMatch(f -> f.startsWith(tree.getName() + " ")),
+                tree.getName() + " bears a public name");
             return super.visitMethod(tree, x);
+        }
+
+        /** What is selected of a name with a capital is of a class: the class's own constants need no such name. */
+        @Override public Void visitMemberSelect(MemberSelectTree tree, Void x) {
+            boolean ofClass = Character.isUpperCase(tree.getExpression().toString().charAt(0));
+            if (ofClass && !Arrays.asList(LIBRARY).contains(tree.toString())) {
+                mayNot(tree, tree.toString());
+            }
+            return super.visitMemberSelect(tree, x);
         }
 
         @Override public Void visitNewClass(NewClassTree tree, Void x) {
@@ -201,6 +218,29 @@ public final class RulesTest {
         @Override public Void visitMemberReference(MemberReferenceTree tree, Void x) {
             mayNot(tree, "method reference");
             return super.visitMemberReference(tree, x);
+        }
+    }
+
+    /** What later calls answer is free, but rule 7 holds for them, too: none throws, for any arguments. */
+    private static void checkCallsBeyondTheLast() {
+        java.util.Random lots = new java.util.Random(8);
+        int[] odd = {Integer.MIN_VALUE, Integer.MIN_VALUE + 1, -1, 0, 1, 2, 3, 4, 5, 8, 15, 16, 64, 100, 127, 128, 383,
+            99999, Integer.MAX_VALUE - 1, Integer.MAX_VALUE};
+        SoundPictures x = new SoundPictures();
+        int a = 0;
+        int b = 0;
+        int c = 0;
+        int call = 0;
+        try {
+            for (int i = 0; i < MANY_CALLS; i++) {
+                call = lots.nextInt(Told.NAMES.length);
+                a = odd[lots.nextInt(odd.length)];
+                b = odd[lots.nextInt(odd.length)];
+                c = odd[lots.nextInt(odd.length)];
+                Told.ask(x, call, a, b, c);
+            }
+        } catch (RuntimeException e) {
+            mustBe(false, Told.NAMES[call] + " of " + a + ", " + b + ", " + c + " threw " + e);
         }
     }
 

@@ -211,12 +211,13 @@ public final class VotesTest extends Sentences {
     }
 
     private static void mostVotesFirst() {
-        terms("RANKS: all (PIECE, OFFSET) with VOTES so: most VOTES first, and so on.");
+        terms("VOTED: of all (PIECE, OFFSET) that with most VOTES");
         // Piece 3 has all three keys in a row, piece 0 two, and piece 0 has the first once more further on.
         Noted x = near().waves(3, 1, 2, 3, 1).waves(0, 1, 2, 3, 0, 1, 2).waves(4, 1, 2, 3, 1);
         due(x.told(6), 3);
         due(x.told(8), 3);
         due(x.told(11), 6);
+        terms("RANKS: all (PIECE, OFFSET) with VOTES so: most VOTES first, and so on.");
         dueRanks(x, new int[][] {{3, 0, 3}, {0, 0, 2}, {0, 4, 1}});
     }
 

@@ -4,6 +4,7 @@ public final class WindowsTest extends Sentences {
     }
 
     public static void main(String[] args) {
+        fiveRows();
         numbersFromZeroOn();
         rowsOfEachLength();
         notWholeIsNone();
@@ -11,16 +12,38 @@ public final class WindowsTest extends Sentences {
         shareOfTheLeastAndTheGreatest();
         shareIsCut();
         shareOfEachTurn();
+        theThreeTurnsByHand();
         peakOfWavesOneToSeven();
         peakOfLikeOnes();
         peakAtFloor();
         peakAtFloorAtFirst();
         peakAtTheBoundsOfFloor();
+        whatIsToldOfARow();
         keyOfTheReach();
         keyOfBothPeaks();
         keyLeastAndGreatest();
         keyAtTheEndOfARow();
         finish("windows");
+    }
+
+    /** What is done to one row is not seen in another. */
+    private static void fiveRows() {
+        terms("PIECES 0 .. 3, and 4, WHAT IS HEARD: rows of at most 128 numbers");
+        Noted x = new Noted();
+        for (int piece = 0; piece <= 4; piece++) {
+            x.numbers(piece, 10 + piece, -10 - piece);
+        }
+        for (int piece = 0; piece <= 4; piece++) {
+            dueRow(x, piece, 10 + piece, -10 - piece);
+        }
+        due(x.louder(2, 2, 1), 2);
+        due(x.wipe(0), 2);
+        due(x.hear(3, 1, 1), 1);
+        dueRow(x, 0);
+        dueRow(x, 1, 11, -11);
+        dueRow(x, 2, 24, -24);
+        dueRow(x, 3, 13, -13);
+        dueRow(x, 4, -13);
     }
 
     private static void numbersFromZeroOn() {
@@ -134,6 +157,25 @@ public final class WindowsTest extends Sentences {
         due(x.peak(0, 0), 4);
     }
 
+    /**
+     * 1, 2, 4, 8, 16, 32, 64, 100 becomes, for h = 1, 3, -1, 12, -4, 48, -16, 164, -36; for h = 2, 15, -5, -9, 3, 212,
+     * -52, -116, 20; for h = 4, 227, -57, -125, 23, -197, 47, 107, -17.
+     */
+    private static void theThreeTurnsByHand() {
+        terms("three turns, each of which makes eight numbers of eight");
+        Noted x = new Noted().numbers(1, 1, 2, 4, 8, 16, 32, 64, 100);
+        int[] want = {805, 50, 244, 8, 606, 34, 178, 4};
+        for (int wave = 0; wave <= 7; wave++) {
+            due(x.share(1, 0, wave), want[wave]);
+        }
+        terms("(the lesser place a, the other b): a becomes a and b together, b becomes a less b (as they were)");
+        // 9 and 17 together are 26, 9 less 17 is -8; were b the new a less b, it would be 9.
+        Noted y = new Noted().numbers(1, 9, 17, 0, 0, 0, 0, 0, 0);
+        for (int wave = 0; wave <= 7; wave++) {
+            due(y.share(1, 0, wave), wave % 2 == 0 ? 10 : 1);
+        }
+    }
+
     private static void peakOfWavesOneToSeven() {
         terms("the WAVE of the greatest SHARE of WAVES 1 .. 7");
         for (int wave = 1; wave <= 7; wave++) {
@@ -220,6 +262,34 @@ public final class WindowsTest extends Sentences {
         Noted x = new Noted().zeros(2);
         x.bound(0, 0);
         return x;
+    }
+
+    /** Peaks 5, 2, none, 2, 5, 7: five windows of six, each with a share of 400, and seven numbers more. */
+    private static void whatIsToldOfARow() {
+        for (int piece = 0; piece <= 4; piece++) {
+            Noted x = new Noted().waves(piece, 5, 2, 0, 2, 5, 7).many(piece, 7, 100);
+            promise(11, "Of a row: what = 0 numbers, 1 WINDOWS, 2 WINDOWS with a PEAK");
+            due(x.row(piece, 0), 55);
+            due(x.row(piece, 1), 6);
+            due(x.row(piece, 2), 5);
+            promise(11, "3 places of KEYS");
+            // 0 1, 0 3, 1 3, 1 4, 3 4, 3 5, 4 5.
+            due(x.row(piece, 3), 7);
+            due(x.bound(1, 1), 3);
+            due(x.row(piece, 3), 3);
+            due(x.bound(1, 5), 1);
+            due(x.row(piece, 3), 10);
+            promise(11, "4 all SHARES of all WINDOWS and WAVES together");
+            due(x.row(piece, 4), 2400);
+            due(x.add(piece, 100), 56);
+            due(x.row(piece, 4), 12400);
+            promise(11, "5 the WAVE that is a PEAK most often, of like ones the least (NONE)");
+            due(x.row(piece, 5), 2);
+            x.waves(piece, 5);
+            due(x.row(piece, 5), 5);
+            due(x.bound(0, 401), 50);
+            due(x.row(piece, 5), NONE);
+        }
     }
 
     private static void keyOfTheReach() {

@@ -1,6 +1,3 @@
-import java.io.IOException;
-import java.nio.file.Files;
-import java.nio.file.Path;
 import java.util.TreeSet;
 
 /**
@@ -12,13 +9,11 @@ abstract class Sentences {
     static final int NONE = -1, UNKNOWN = -1000000001, OUTSIDE = -1000000002, NOT = -1000000003, FULL = -1000000004;
     static final int MIN = Integer.MIN_VALUE, MAX = Integer.MAX_VALUE;
 
-    private static final Path DOCUMENT = Path.of("../shared/DOC.md");
-    private static final String DOCUMENT_TEXT = readDocument();
     private static final TreeSet<Integer> PROMISES = new TreeSet<>();
+    private static final TreeSet<String> OPENED = new TreeSet<>();
 
     private static String where = "";
     private static int asked = 1;
-    private static int sentences = 0;
     private static int wrong = 0;
 
     /** A call, or several, whose answer is looked at. */
@@ -91,7 +86,7 @@ abstract class Sentences {
 
     static void finish(String name) {
         mustHaveAsked();
-        System.out.println(wrong == 0 ? name + ": " + sentences + " sentences hold" : name + ": " + wrong + " faults");
+        System.out.println(name + ": " + (wrong == 0 ? OPENED.size() + " sentences hold" : wrong + " faults"));
         if (wrong != 0) {
             System.exit(1);
         }
@@ -101,8 +96,8 @@ abstract class Sentences {
         mustHaveAsked();
         where = heading.substring(3) + " \"" + words + "\"";
         asked = 0;
-        sentences++;
-        if (!section(heading).contains(words)) {
+        OPENED.add(where);
+        if (!Document.section(heading).contains(words)) {
             fault("the document does not say this there");
         }
     }
@@ -110,25 +105,6 @@ abstract class Sentences {
     private static void mustHaveAsked() {
         if (asked == 0) {
             fault("nothing was asked");
-        }
-    }
-
-    private static String section(String heading) {
-        int start = DOCUMENT_TEXT.indexOf(heading);
-        if (start < 0) {
-            return "";
-        }
-        int end = DOCUMENT_TEXT.indexOf("## ", start + heading.length());
-        // The bars of "======== 1" are no heading, but "## " ends in a blank and stands in no text of the document.
-        return end < 0 ? DOCUMENT_TEXT.substring(start) : DOCUMENT_TEXT.substring(start, end);
-    }
-
-    private static String readDocument() {
-        try {
-            return Files.readString(DOCUMENT).replaceAll("\\s+", " ");
-        } catch (IOException e) {
-            System.out.println("no document at " + DOCUMENT.toAbsolutePath());
-            return "";
         }
     }
 }
